@@ -4,6 +4,7 @@ public final class AheadTest {
         onHandIn();
         firstShort();
         shippedOn();
+        ranksAndKeepsCountAhead();
         askingChangesNothing();
         digestOfNothing();
         digestOfSome();
@@ -97,6 +98,22 @@ public final class AheadTest {
         Check.same("43 shipped ahead", h.shippedOn(0, 1), 1);
     }
 
+    private static void ranksAndKeepsCountAhead() {
+        Granary g = new Granary();
+        g.addItem(9, 5, 1);
+        g.addSite(100);
+        g.order(0, 0, 4, 3, 2, 0);
+        g.order(0, 0, 4, 3, 1, 0);
+        g.order(0, 0, 4, 3, 0, 6);
+        g.receive(0, 0, 4, 8);
+        Check.same("43 the rank decides", g.shippedOn(1, 9), 3);
+        Check.same("43 the rank decides", g.shippedOn(0, 9), -1);
+        Check.same("43 none lasts so long", g.shippedOn(2, 9), -1);
+        g.setPolicy(0, 0, 99, 99, -1, 2);
+        Check.same("43 what is ordered ahead comes on the third day", g.shippedOn(2, 9), 3);
+        Check.same("42 in time for all", g.firstShort(9), -1);
+    }
+
     private static void askingChangesNothing() {
         Granary g = some();
         long before = g.digest();
@@ -131,7 +148,16 @@ public final class AheadTest {
         Granary g = some();
         g.send(0, 0, 1, 1);
         g.receive(0, 0, 2, 9);
-        g.order(0, 0, 4, 2, 0, 0);
+        g.order(0, 0, 1, 2, 0, 0);
+        g.setRoute(1, 0, 1);
+        g.receive(1, 0, 9, 9);
+        g.setPolicy(1, 0, 2, 3, -1, 4);
+        g.setPolicy(1, 1, 30, 40, -1, 4);
+        g.receive(0, 1, 9, 9);
+        g.setPolicy(0, 1, 0, 1, -1, 4);
+        g.setPolicy(0, 0, 99, 99, -1, 4);
+        Check.same("44 one unit of a lot is reserved", g.reserved(4, 2), 1);
+        Check.same("44 planned", g.planned(0, 1, 0) > 0 && g.planned(1, 0, 1) > 0, true);
         sum = 58035;
         add(g.day(), g.items(), g.sites(), g.lots(), g.orders(), g.transports());
         for (int what = 0; what <= 4; what++) {

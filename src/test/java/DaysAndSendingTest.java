@@ -258,7 +258,10 @@ public final class DaysAndSendingTest {
         Check.same("12 too early a last day", g.ofLot(3, 2), 5);
         Check.same("12 as many as can be", g.send(0, 0, 1, 999), 4);
         Check.same("12 nothing more", g.send(0, 0, 1, 999), 0);
-        Check.same("12 transports", g.transports(), 4);
+        g.setRoute(0, 1, 1);
+        Check.same("12 by a route of one day", g.send(0, 0, 1, 999), 5);
+        Check.same("12 transports", g.transports(), 5);
+        Check.same("12 arrives", g.ofTransport(4, 3), 1);
     }
 
     private static void sendStopsAt90() {
