@@ -634,7 +634,10 @@ public final class Granary {
         }
 
         void becomeLike(Policies other) {
-            System.arraycopy(other.set, 0, set, 0, PLACES);
+            // LANGUAGE.md tells of rows of numbers to copy, and these are none.
+            for (int place = 0; place < PLACES; place++) {
+                set[place] = other.set[place];
+            }
             System.arraycopy(other.point, 0, point, 0, PLACES);
             System.arraycopy(other.top, 0, top, 0, PLACES);
             System.arraycopy(other.source, 0, source, 0, PLACES);

@@ -44,6 +44,47 @@ final class Check {
         }
     }
 
+    interface Maker {
+        Granary make();
+    }
+
+    interface CallOn {
+        void run(Granary granary);
+    }
+
+    /** What a call throws; null without any. */
+    static Class<?> thrownBy(Granary granary, CallOn body) {
+        try {
+            body.run(granary);
+        } catch (RuntimeException e) {
+            return e.getClass();
+        }
+        return null;
+    }
+
+    /**
+     * That a call throws just this kind (null for none), and that the planner is then as it was: now, by its digest,
+     * and, as the digest does not tell all (a price, a point, a rank), also as days go by, beside one never asked.
+     */
+    static void leavesAsItWas(String call, Class<? extends RuntimeException> due, Maker maker, CallOn body) {
+        Granary granary = maker.make();
+        Granary untouched = maker.make();
+        long before = granary.digest();
+        Class<?> got = thrownBy(granary, body);
+        if (got != due) {
+            report(call + " threw " + got + ", due is " + due);
+        }
+        boolean changed = granary.digest() != before;
+        for (int days : new int[] {1, 2, 27}) {
+            granary.pass(days);
+            untouched.pass(days);
+            changed |= granary.digest() != untouched.digest();
+        }
+        if (changed) {
+            report(call + " changed something");
+        }
+    }
+
     static void noIndex(String call, Granary granary, Call body) {
         fails(call, IndexOutOfBoundsException.class, granary, body);
     }

@@ -3,22 +3,31 @@ public final class LimitsTest {
     private final Granary g = new Granary();
     private final Model m = new Model();
 
+    /** A new object for each stage, so that none is called more than 512 times. */
     public static void main(String[] args) {
+        for (int stage = 0; stage <= 7; stage++) {
+            LimitsTest answers = at(stage);
+            answers.compare("at the stage " + stage);
+            at(stage).wouldBe();
+        }
+        at(7).noMore();
+        Check.end();
+    }
+
+    private static LimitsTest at(int stage) {
         LimitsTest test = new LimitsTest();
         test.fill();
-        test.compare("filled");
-        Check.same("9 reserveAnew", test.g.reserveAnew(), test.m.reserveAnew());
-        test.compare("reserved anew");
-        test.wouldBe();
-        Check.same("8 cancel", test.g.cancel(59), test.m.cancel(59));
-        Check.same("13 balance", test.g.balance(5), test.m.balance(5));
-        for (int days = 1; days <= 16; days *= 2) {
-            Check.same("11 pass", test.g.pass(days), test.m.pass(days));
-            test.compare("passed");
-            test.wouldBe();
+        if (stage >= 1) {
+            Check.same("9 reserveAnew", test.g.reserveAnew(), test.m.reserveAnew());
         }
-        test.noMore();
-        Check.end();
+        if (stage >= 2) {
+            Check.same("8 cancel", test.g.cancel(59), test.m.cancel(59));
+            Check.same("13 balance", test.g.balance(5), test.m.balance(5));
+        }
+        for (int later = 3; later <= stage; later++) {
+            Check.same("11 pass", test.g.pass(1 << (later - 3)), test.m.pass(1 << (later - 3)));
+        }
+        return test;
     }
 
     private void fill() {
