@@ -20,6 +20,7 @@ public final class BalancingEdgesTest {
         asFarAsLotsLast();
         earlierPairsTakeTheEarlierLots();
         balanceWithoutAPlan();
+        moreThanASendTakes();
         Check.end();
     }
 
@@ -482,5 +483,27 @@ public final class BalancingEdgesTest {
         Check.same("13 one lacks", g.balance(0), 1);
         Check.same("13 no more", g.balance(0), 0);
         Check.same("13 one site alone", sites(1).balance(1), 0);
+    }
+
+    /** The 999 units of send() are no bound of a plan, nor of what a policy takes from another site. */
+    private static void moreThanASendTakes() {
+        Granary g = sites(2);
+        g.setRoute(0, 1, 1);
+        g.receive(0, 0, 999, 60);
+        g.receive(0, 0, 999, 60);
+        g.setPolicy(0, 0, 0, 0, -1, 1);
+        g.setPolicy(0, 1, 999, 999, -1, 1);
+        g.order(0, 1, 99, 60, 0, 0);
+        Check.same("40 planned", g.planned(0, 0, 1), 1098);
+        Check.same("13 balance", g.balance(0), 1098);
+        Check.same("13 what is left", g.onHand(0, 0), 900);
+        Granary review = sites(2);
+        review.setRoute(0, 1, 1);
+        review.receive(0, 0, 999, 60);
+        review.receive(0, 0, 999, 60);
+        review.setPolicy(0, 1, 0, 999, 0, 1);
+        review.order(0, 1, 99, 60, 0, 0);
+        review.pass(1);
+        Check.same("11 by a policy from another site", review.underWay(0, 1), 1098);
     }
 }
