@@ -296,8 +296,9 @@ public final class Granary {
         needWithin(days, 1, 60);
         needWithin(bridged, 1, days);
         int greatest = 0;
-        for (int first = now.day - days + 1; first <= now.day - bridged + 1; first++) {
-            greatest = Math.max(greatest, now.orders.useWithin(item, site, first, first + bridged - 1));
+        for (int ago = 0; ago <= days - bridged; ago++) {
+            int last = now.day - ago;
+            greatest = Math.max(greatest, now.orders.useWithin(item, site, last - bridged + 1, last));
         }
         return greatest;
     }
